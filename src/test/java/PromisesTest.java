@@ -137,6 +137,9 @@ public final class PromisesTest {
         b.open(w, 11);
         c.state("open", () -> b.surface(0));
         c.due("another street", b.surface(1), 99);
+        int x = running(b, 0, 1, 0, 1, 50, 0, 60);
+        b.open(x, 0);
+        c.state("the first metre open", () -> b.surface(1));
         passTo(b, 0, 24);
         b.fill(w, 11, 90);
         c.due("not open any more", b.surface(0), 100);
@@ -168,6 +171,8 @@ public final class PromisesTest {
         c.due("in place of the other", b.bars(v), 0);
         c.due("first day", b.embargo(0, 10, 10), 1);
         c.due("last day", b.embargo(0, 14, 14), 1);
+        c.due("the last day of all", b.embargo(0, 999, 999), 0);
+        c.due("the first day of all", b.embargo(0, 0, 0), 0);
         c.due("around", b.embargo(0, 0, 999), 1);
         c.due("stays", b.of(w, 0), GRANTED);
         c.due("bars one that is asked", b.bars(v), 1);
@@ -671,6 +676,12 @@ public final class PromisesTest {
         int q = e.ask(1, 0, 6, 6, 50, MINOR, 6, 2);
         e.grant(q, 0);
         c.due("a day ahead of it", e.extend(p), 5);
+        Trenchboard first = board();
+        first.thing(1, 0, 2, 2, 50);
+        first.ask(1, 0, 6, 6, 50, URGENT, 5, 2);
+        int second = running(first, 0, 0, 2, 5, 50, 0, 4);
+        first.open(second, 2);
+        c.state("works 0 are met, too", () -> first.extend(second));
         Trenchboard f = board();
         f.thing(1, 0, 2, 2, 50);
         int late = running(f, 0, 0, 2, 5, 50, 0, 1);
@@ -889,6 +900,7 @@ public final class PromisesTest {
         c.due("nobody", b.defect(0, 3, 20), NONE);
         c.due("nobody pays", b.money(0), 0);
         c.due("too deep", b.defect(0, 2, 51), NONE);
+        c.due("deepest", b.defect(0, 2, 300), NONE);
         c.due("cores", b.due(0), 1);
         c.due("liable", b.defect(0, 2, 50), w);
         c.due("pays", b.money(0), -300);
@@ -939,6 +951,7 @@ public final class PromisesTest {
         c.wrong("depth -1", () -> b.liableAnew(0, 0, -1));
         c.wrong("depth 301", () -> b.liableAnew(0, 0, 301));
         liable(b, 0, 0, NONE);
+        liable(b, 0, 300, NONE);
         filled(b, deep, 0, 90);
         filled(b, mid, 1, 90);
         filled(b, deep, 2, 90);
@@ -951,6 +964,9 @@ public final class PromisesTest {
         liable(b, 2, 119, mid);
         liable(b, 2, 120, deep);
         liable(b, 2, 121, NONE);
+        int deepest = running(b, 0, 0, 6, 6, 300, 1, 60);
+        filled(b, deepest, 6, 90);
+        liable(b, 6, 300, deepest);
         liable(b, 3, 0, NONE);
         b.surface(1);
         liable(b, 2, 9, flat);
@@ -991,6 +1007,12 @@ public final class PromisesTest {
         int w = b.ask(0, 0, 2, 5, 50, MINOR, 10, 5);
         c.out("works 1", () -> b.bars(1));
         c.due("nothing", b.bars(w), 0);
+        b.grant(w, 0);
+        int v = b.ask(0, 0, 2, 5, 50, MINOR, 10, 5);
+        c.due("meets one that is asked", b.meets(w, 0), v);
+        c.due("is not barred by it", b.bars(w), 0);
+        c.due("but bars it", b.bars(v), 3);
+        b.refuse(v);
         int u = b.ask(0, 0, 2, 5, 50, URGENT, 10, 5);
         c.due("meets", b.bars(w), 3);
         b.surface(0);
@@ -1189,6 +1211,11 @@ public final class PromisesTest {
         filled(b, v, 4, 80);
         b.core(0, 4);
         c.due("not below 0", b.due(2), 0);
+        int u = running(b, 1, 0, 2, 5, 50, 0, 60);
+        for (int i = 0; i < 101; i++) {
+            filled(b, u, 5, 90);
+        }
+        c.due("5 hundredths of 101", b.due(1), 6);
     }
 
     private static void money() {
