@@ -153,7 +153,7 @@ public final class Trenchboard {
     public int trial(int street, int metre) throws IndexOutOfBoundsException {
         Street s = streetAt(street);
         Metre m = s == null ? null : s.metreAt(metre);
-        if (m == null) {
+        if (s == null || m == null) {
             throw new IndexOutOfBoundsException("no such street or metre");
         }
         m.sure = true;
@@ -275,7 +275,7 @@ public final class Trenchboard {
     public int open(int works, int metre) throws IndexOutOfBoundsException, IllegalStateException {
         Works w = worksAt(works);
         Metre m = w == null ? null : w.ownMetreAt(metre);
-        if (m == null) {
+        if (w == null || m == null) {
             throw new IndexOutOfBoundsException("no such works, or no metre of theirs");
         }
         if (w.state != RUN || w.plated || (w.hasCondition(QUIET) && isBusy())) {
@@ -294,7 +294,7 @@ public final class Trenchboard {
     public int fill(int works, int metre, int density) throws IndexOutOfBoundsException, IllegalArgumentException, IllegalStateException {
         Works w = worksAt(works);
         Metre m = w == null ? null : w.ownMetreAt(metre);
-        if (m == null) {
+        if (w == null || m == null) {
             throw new IndexOutOfBoundsException("no such works, or no metre of theirs");
         }
         if (density < 0 || density > 100) {
@@ -375,7 +375,7 @@ public final class Trenchboard {
     public int defect(int street, int metre, int depth) throws IndexOutOfBoundsException, IllegalArgumentException {
         Street s = streetAt(street);
         Metre m = s == null ? null : s.metreAt(metre);
-        if (m == null) {
+        if (s == null || m == null) {
             throw new IndexOutOfBoundsException("no such street or metre");
         }
         if (depth < 0 || depth > 300) {
@@ -393,7 +393,7 @@ public final class Trenchboard {
     public int core(int street, int metre) throws IndexOutOfBoundsException, IllegalStateException {
         Street s = streetAt(street);
         Metre m = s == null ? null : s.metreAt(metre);
-        if (m == null) {
+        if (s == null || m == null) {
             throw new IndexOutOfBoundsException("no such street or metre");
         }
         Fill f = m.latest;
@@ -413,7 +413,7 @@ public final class Trenchboard {
     public int liable(int street, int metre, int depth) throws IndexOutOfBoundsException, IllegalArgumentException {
         Street s = streetAt(street);
         Metre m = s == null ? null : s.metreAt(metre);
-        if (m == null) {
+        if (s == null || m == null) {
             throw new IndexOutOfBoundsException("no such street or metre");
         }
         if (depth < 0 || depth > 300) {
@@ -425,7 +425,7 @@ public final class Trenchboard {
     public int liableAnew(int street, int metre, int depth) throws IndexOutOfBoundsException, IllegalArgumentException {
         Street s = streetAt(street);
         Metre m = s == null ? null : s.metreAt(metre);
-        if (m == null) {
+        if (s == null || m == null) {
             throw new IndexOutOfBoundsException("no such street or metre");
         }
         if (depth < 0 || depth > 300) {
@@ -490,7 +490,7 @@ public final class Trenchboard {
     public int metre(int street, int metre, int what) throws IndexOutOfBoundsException, IllegalArgumentException {
         Street s = streetAt(street);
         Metre m = s == null ? null : s.metreAt(metre);
-        if (m == null) {
+        if (s == null || m == null) {
             throw new IndexOutOfBoundsException("no such street or metre");
         }
         switch (what) {
