@@ -50,7 +50,7 @@ public final class RandomTest {
             int call = i < 4 ? 0 : pick();
             int[] a = arguments(CALLS[call]);
             long want = asked(CALLS[call], a);
-            long got = answered(c, CALLS[call], a);
+            long got = answered(CALLS[call], a);
             made[call]++;
             threw[call] += want <= Naive.OUT ? 1 : 0;
             if (got != want) {
@@ -246,56 +246,8 @@ public final class RandomTest {
         }
     }
 
-    private long answered(Check c, String call, int[] a) {
-        try {
-            return made(call, a);
-        } catch (RuntimeException e) {
-            if (!Check.isOurs(e)) {
-                c.say(told(call, a) + " let the machine throw " + e);
-            }
-            return e.getClass() == IndexOutOfBoundsException.class ? Naive.OUT
-                : e.getClass() == IllegalArgumentException.class ? Naive.WRONG
-                : e.getClass() == IllegalStateException.class ? Naive.STATE : -1000004;
-        }
-    }
-
-    private long made(String call, int[] a) {
-        switch (call) {
-            case "street": return board.street(a[0], a[1], a[2], a[3]);
-            case "surface": return board.surface(a[0]);
-            case "embargo": return board.embargo(a[0], a[1], a[2]);
-            case "thing": return board.thing(a[0], a[1], a[2], a[3], a[4]);
-            case "record": return board.record(a[0], a[1], a[2], a[3]);
-            case "lose": return board.lose(a[0]) ? 1 : 0;
-            case "survey": return board.survey(a[0]);
-            case "trial": return board.trial(a[0], a[1]);
-            case "ask": return board.ask(a[0], a[1], a[2], a[3], a[4], a[5], a[6], a[7]);
-            case "grant": return board.grant(a[0], a[1]);
-            case "refuse": return board.refuse(a[0]);
-            case "vary": return board.vary(a[0], a[1]);
-            case "exempt": return board.exempt(a[0]) ? 1 : 0;
-            case "agree": return board.agree(a[0], a[1]) ? 1 : 0;
-            case "start": return board.start(a[0]);
-            case "open": return board.open(a[0], a[1]);
-            case "fill": return board.fill(a[0], a[1], a[2]);
-            case "plate": return board.plate(a[0]) ? 1 : 0;
-            case "extend": return board.extend(a[0]);
-            case "stop": return board.stop(a[0]);
-            case "pass": return board.pass(a[0]);
-            case "defect": return board.defect(a[0], a[1], a[2]);
-            case "core": return board.core(a[0], a[1]);
-            case "liable": return board.liable(a[0], a[1], a[2]);
-            case "liableAnew": return board.liableAnew(a[0], a[1], a[2]);
-            case "bars": return board.bars(a[0]);
-            case "meets": return board.meets(a[0], a[1]);
-            case "of": return board.of(a[0], a[1]);
-            case "metre": return board.metre(a[0], a[1], a[2]);
-            case "search": return board.search(a[0], a[1], a[2]);
-            case "queue": return board.queue(a[0]);
-            case "due": return board.due(a[0]);
-            case "money": return board.money(a[0]);
-            default: return board.moneyAnew(a[0]);
-        }
+    private long answered(String call, int[] a) {
+        return Calls.answer(board, call, a);
     }
 
     /** Compares all that can be asked, which shows, too, that calls that throw changed nothing. */
@@ -324,7 +276,7 @@ public final class RandomTest {
 
     private boolean same(Check c, int i, String call, int... a) {
         long want = asked(call, a);
-        long got = answered(c, call, a);
+        long got = answered(call, a);
         if (got != want) {
             c.due("behind call " + i + ", " + told(call, a), got, want);
         }
